@@ -14,7 +14,7 @@ public final class RopeClock {
     private static final int LAST_DAY = 9999;
     private static final int ROUND = 720;
     private static final int MOST_SUM = 9999;
-    private static final int UNREACHED = Integer.MAX_VALUE;
+    private static final int UNREACHED = 0x7FFFFFFF;
 
     private final World now = new World();
     private final World pictured = new World();
@@ -1660,7 +1660,7 @@ public final class RopeClock {
             }
         }
 
-        static int waysToSit(Puzzles puzzles, int i, int taken, int sum) {
+        private static int waysToSit(Puzzles puzzles, int i, int taken, int sum) {
             if (i >= puzzles.sitters || i >= Puzzles.MOST_SEATS) {
                 return sum == 0 ? 1 : 0;
             }
@@ -1674,7 +1674,7 @@ public final class RopeClock {
         }
 
         /** The least lean, times ROWS, and the least row of arms that has it. */
-        static int leastLean(Puzzles puzzles, int i, int taken, int sum, int row) {
+        private static int leastLean(Puzzles puzzles, int i, int taken, int sum, int row) {
             if (i >= puzzles.arms || i >= Puzzles.MOST_ARMS) {
                 return Math.abs(sum) * ROWS + row;
             }

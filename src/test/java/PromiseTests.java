@@ -40,6 +40,7 @@ final class PromiseTests {
         game();
         undo();
         image();
+        imageOfRows();
         look();
         System.out.println("PromiseTests: " + checked + " answers, " + wrong + " wrong");
         if (wrong != 0) {
@@ -468,6 +469,17 @@ final class PromiseTests {
         faulty(x, 0, "when 1;", 1, 0);
         faulty(x, 0, "leaveswhen 1;", 1, 0);
         faulty(x, 0, "leaves boat;", 1, 7);
+        for (String letter : new String[] {"a", "z", "A", "Z"}) {
+            faulty(x, 0, "leaves" + letter + " 1;", 1, 0);
+        }
+        for (String sign : new String[] {"@", "[", "`", "{", "\u00e9", "\r", ":", "/", ","}) {
+            faulty(x, 0, "leaves" + sign + " 1;", 1, 6);
+        }
+        faulty(x, 0, times(400, ";"), 1, 0);
+        faulty(x, 0, "leaves " + times(196, "1+") + "1", 1, 400);
+        due(1, tell(x, 0, "leaves  " + times(195, "1+") + "1;"));
+        due(196, x.of(0, 5));
+        tell(x, 0, "winds 7;");
         faulty(x, 0, "leaves 1;\u0000", 1, 9);
         faulty(x, 0, "leaves 1;\u0001", 1, 9);
         faulty(x, 0, "winds 1 when not not (((not (not 1=1;", 1, 36);
@@ -620,6 +632,14 @@ final class PromiseTests {
         x.set(3, 0, 9999);
         x.act(1, 0);
         x.act(0, 0);
+        tell(x, 0, "winds weight + 5;");
+        x.act(1, 1);
+        tell(x, 0, "winds weight + 9;");
+        x.act(0, 1);
+        due(10003, x.look(3));
+        worth(999, x, "wound-9000");
+        x.set(3, 0, 9999);
+        tell(x, 0, "");
         x.act(1, 1);
         x.act(0, 1);
         due(9999, x.look(3));
@@ -978,6 +998,9 @@ final class PromiseTests {
         due(-1, x.part(1, 10000, 0));
         due(-1, x.part(1, 0, 0));
         due(-1, x.part(0, 1, 100));
+        due(2, x.part(1, 9999, 0));
+        due(9999, x.part(1, 9999, 101));
+        due(1, x.part(9999, 1, 0));
         due(18, x.part(6765, 4181, 0));
         due(6765, x.part(6765, 4181, 217));
     }
@@ -1080,6 +1103,7 @@ final class PromiseTests {
         due(499, x.meets(499, 1, 0, 1));
         due(499, x.meets(0, 1, 499, 500));
         due(8, x.meets(2, 3, 3, 5));
+        due(5, x.meets(0, 5, 1, 1));
         due(-1, x.meets(0, 4, 1, 6));
         due(-1, x.meets(0, 500, 1, 500));
         // The latest there is: 1 and 498 times 500 is 499 times 499.
@@ -1291,6 +1315,47 @@ final class PromiseTests {
             due(0, x.fault(1));
             due(false, x.undo());
         }
+    }
+
+    private static void imageOfRows() {
+        promise = "35 rows";
+        RopeClock x = with(100, 9, 30, 0);
+        tell(x, 0, "leaves 1;winds 2;");
+        x.couple(0, 1);
+        x.wheel(10, false);
+        x.wheel(20, true);
+        x.wheel(40, false);
+        x.seat(1);
+        x.seat(1);
+        x.arm(2, 3);
+        x.act(0, 1);
+        x.image(true);
+        // Other rows at the same places, which the image must not take over.
+        x.undo();
+        x.days(1);
+        x.act(0, 0);
+        tell(x, 0, "winds 5 when long=0;");
+        x.couple(-1, 0);
+        x.couple(1, 2);
+        x.wheel(-1, false);
+        x.wheel(11, false);
+        x.wheel(99, false);
+        x.wheel(12, false);
+        x.seat(-1);
+        x.seat(5);
+        x.seat(3);
+        x.arm(-100, 0);
+        x.arm(7, 7);
+        x.image(false);
+        row(x, 0, 0, 0, 1, 2);
+        due(1, x.of(0, 5));
+        due(2, x.of(0, 6));
+        due(3, x.ferry(2, 1));
+        due(5, x.ferry(3, 1));
+        due(-1, x.wheels(0));
+        due(2, x.wheels(1));
+        due(6, x.level());
+        due(6, x.hung(0));
     }
 
     private static void look() {
