@@ -18,7 +18,6 @@ final class MirrorTests {
     private final List<String> trace = new ArrayList<>();
     private boolean failed = false;
     private int people = 0;
-    private boolean maybeTooDeep = false;
 
     private MirrorTests(long seed) {
         random = new Random(seed);
@@ -173,7 +172,6 @@ final class MirrorTests {
 
     private void tell(int k, boolean spoilt) throws Exception {
         StringBuilder s = new StringBuilder();
-        maybeTooDeep = false;
         int lines = random.nextInt(12) == 0 ? 15 + random.nextInt(3) : random.nextInt(7);
         for (int i = 0; i < lines && s.length() < 330; i++) {
             s.append(k == 0 ? lawLine() : k == 1 ? boatLine() : k == 2 ? townLine() : kinLine());
@@ -197,7 +195,8 @@ final class MirrorTests {
         trace.add("  (text " + k + " was: " + s + ")");
         call("fault", 0);
         call("fault", 1);
-        if (!spoilt && !maybeTooDeep && lines < 16 && s.length() < 330 && people > 1 && got.equals(-1)) {
+        boolean tooDeep = clock.fault(0) == 3;
+        if (!spoilt && !tooDeep && lines < 16 && s.length() < 330 && people > 1 && got.equals(-1)) {
             wrong++;
             System.out.println("a good text was refused: " + s);
         }
@@ -231,7 +230,6 @@ final class MirrorTests {
         String line = pick("leaves", "winds", "returns") + blank() + sum();
         if (random.nextInt(2) == 0) {
             int open = random.nextInt(20) == 0 ? 7 + random.nextInt(3) : 0;
-            maybeTooDeep |= open > 0;
             line += " when " + choice(open);
         }
         return line + pick("", " ") + ";";
