@@ -1,9 +1,5 @@
 /** For each promise ordinary calls, the edges that the document names, and wrong inputs, worked out by hand. */
-final class PromiseTests {
-    private static int wrong = 0;
-    private static int checked = 0;
-    private static String promise = "";
-
+final class PromiseTests extends Bench {
     public static void main(String[] args) {
         newObject();
         state();
@@ -42,71 +38,7 @@ final class PromiseTests {
         image();
         imageOfRows();
         look();
-        System.out.println("PromiseTests: " + checked + " answers, " + wrong + " wrong");
-        if (wrong != 0) {
-            System.exit(1);
-        }
-    }
-
-    private static void due(long want, long got) {
-        checked++;
-        if (want != got) {
-            wrong++;
-            StackTraceElement at = new Throwable().getStackTrace()[1];
-            int line = at.getMethodName().equals("due") ? new Throwable().getStackTrace()[2].getLineNumber()
-                    : at.getLineNumber();
-            System.out.println(promise + ", line " + line + ": answered " + got + ", due is " + want);
-        }
-    }
-
-    private static void due(boolean want, boolean got) {
-        due(want ? 1 : 0, got ? 1 : 0);
-    }
-
-    private static void put(RopeClock x, String s) {
-        StringBuilder padded = new StringBuilder(s);
-        while (padded.length() % 20 != 0) {
-            padded.append(' ');
-        }
-        x.end(0);
-        for (int i = 0; i < padded.length(); i += 20) {
-            x.feed(four(padded, i), four(padded, i + 4), four(padded, i + 8), four(padded, i + 12), four(padded, i + 16));
-        }
-        x.end(s.length());
-    }
-
-    private static int four(CharSequence s, int i) {
-        return s.charAt(i) << 24 | s.charAt(i + 1) << 16 | s.charAt(i + 2) << 8 | s.charAt(i + 3);
-    }
-
-    private static int tell(RopeClock x, int k, String s) {
-        put(x, s);
-        return x.text(k);
-    }
-
-    private static void faulty(RopeClock x, int k, String s, int fault, int place) {
-        int lines = x.look(11 + k);
-        due(-1, tell(x, k, s));
-        if (x.fault(0) != fault || x.fault(1) != place) {
-            System.out.println("  text " + k + ": " + s + ": fault " + x.fault(0) + " at " + x.fault(1));
-        }
-        due(fault, x.fault(0));
-        due(place, x.fault(1));
-        due(lines, x.look(11 + k));
-        due(20, x.feed(0, 0, 0, 0, 0));
-        x.end(0);
-    }
-
-    private static RopeClock with(int... weightsAndLongs) {
-        RopeClock x = new RopeClock();
-        for (int i = 0; i + 1 < weightsAndLongs.length; i += 2) {
-            x.islander(weightsAndLongs[i], weightsAndLongs[i + 1]);
-        }
-        return x;
-    }
-
-    private static String times(int n, String s) {
-        return s.repeat(n);
+        finish("PromiseTests");
     }
 
     private static void newObject() {
@@ -669,13 +601,6 @@ final class PromiseTests {
         x.days(5);
         worth(0, x, "school");
         worth(5, x, "day");
-    }
-
-    private static void row(RopeClock x, int i, int day, int what, int who, int much) {
-        due(day, x.book(i, 0));
-        due(what, x.book(i, 1));
-        due(who, x.book(i, 2));
-        due(much, x.book(i, 3));
     }
 
     private static void book() {
