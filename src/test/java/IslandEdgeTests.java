@@ -10,6 +10,7 @@ final class IslandEdgeTests extends Bench {
         islanderAtFirst();
         weightAndLong();
         setTimeWoundDue();
+        setOneAlone();
         setAnotherWhat();
         actByHand();
         actOnTheEnds();
@@ -157,6 +158,24 @@ final class IslandEdgeTests extends Bench {
                 due(false, x.set(r[0], who, r[2] + 1));
                 due(r[1], x.look(r[3]));
             }
+        }
+    }
+
+    private static void setOneAlone() {
+        promise = "set: what 0 WEIGHT, 1 LONG, 2 TIME, 3 WOUND, 4 DUE: that and nothing else";
+        for (int what = 0; what < 5; what++) {
+            RopeClock x = with(5, 5, 6, 6);
+            int[] told = {5, 5, 0, 0, 0};
+            due(true, x.set(what, 0, 9));
+            told[what] = 9;
+            due(told[0], x.of(0, 0));
+            due(told[1], x.of(0, 1));
+            due(told[2], x.look(2));
+            due(told[3], x.look(3));
+            due(told[4], x.look(7));
+            due(6, x.of(1, 0));
+            due(6, x.of(1, 1));
+            due(0, x.look(5));
         }
     }
 
@@ -441,6 +460,7 @@ final class IslandEdgeTests extends Bench {
         x.days(2);
         due(0, x.look(6));
         x.days(1);
+        due(0, x.look(6));
         due(0, x.of(0, 3));
         due(0, x.of(0, 2));
         x.days(1);

@@ -23,6 +23,7 @@ final class KeepingEdgeTests extends Bench {
         undoLeavesLawAndKin();
         imageNone();
         imageMoreThanOnce();
+        imageOfTheBook();
         imageTakenAgain();
         imageNothingToUndo();
         imageNotTheTape();
@@ -30,6 +31,7 @@ final class KeepingEdgeTests extends Bench {
         imageOfEmpty();
         lookAnotherWhat();
         lookAsTheyAre();
+        callsAre512();
         finish("KeepingEdgeTests");
     }
 
@@ -290,18 +292,20 @@ final class KeepingEdgeTests extends Bench {
         due(false, x.undo());
     }
 
-    /** All that a day or a deed by hand can change. */
+    /** All that a day or a deed by hand can change; of the book its end. */
     private static String told(RopeClock x) {
         StringBuilder s = new StringBuilder();
         for (int what = 0; what < 15; what++) {
             s.append(x.look(what)).append(' ');
         }
-        for (int i = 0; i < x.look(0); i++) {
-            for (int what = 0; what < 9; what++) {
+        int people = x.look(0);
+        for (int i = 0; i < people; i++) {
+            for (int what : new int[] {2, 3, 4, 6, 8}) {
                 s.append(x.of(i, what)).append(' ');
             }
         }
-        for (int i = 0; i <= x.look(9); i++) {
+        int lines = x.look(9);
+        for (int i = lines - 2; i <= lines; i++) {
             for (int what = 0; what < 4; what++) {
                 s.append(x.book(i, what)).append(' ');
             }
@@ -434,7 +438,7 @@ final class KeepingEdgeTests extends Bench {
         x.image(true);
         String then = told(x);
         for (int again = 0; again < 3; again++) {
-            x.days(5);
+            x.days(4);
             x.state(again);
             x.islander(9, 9);
             tell(x, again, "");
@@ -442,6 +446,30 @@ final class KeepingEdgeTests extends Bench {
             due(true, x.image(false));
             same(then, told(x));
         }
+    }
+
+    private static void imageOfTheBook() {
+        promise = "THE IMAGE: THE BOOK as it was when it was taken";
+        RopeClock x = town(2);
+        x.act(0, 0);
+        x.image(true);
+        // Another line at the same place: of another day, of what, of whom and by how much.
+        x.undo();
+        x.set(3, 0, 1);
+        x.days(1);
+        x.set(2, 0, 58);
+        due(0, x.look(9));
+        x.act(0, 1);
+        x.days(1);
+        x.act(1, 1);
+        due(3, x.look(9));
+        row(x, 0, 1, 0, 1, 2);
+        row(x, 1, 1, 2, -1, 1);
+        row(x, 2, 2, 1, 1, 2);
+        x.image(false);
+        due(1, x.look(9));
+        row(x, 0, 0, 0, 0, 1);
+        due(-2, x.book(1, 0));
     }
 
     private static void imageTakenAgain() {
@@ -596,5 +624,18 @@ final class KeepingEdgeTests extends Bench {
         }
         x.act(0, 0);
         due(10000, x.look(3));
+    }
+
+    private static void callsAre512() {
+        promise = "An object is used for at most 512 calls after it has been made";
+        RopeClock x = new RopeClock();
+        due(0, x.islander(1, 0));
+        for (int n = 1; n <= 254; n++) {
+            x.act(0, 0);
+            x.act(1, 0);
+        }
+        due(254, x.of(0, 4));
+        due(150, x.look(9));
+        due(true, x.undo());
     }
 }

@@ -7,8 +7,11 @@ import java.util.Random;
 
 /** Runs of random calls on RopeClock and on Plain: each answer must be the same. */
 final class MirrorTests {
-    private static final int RUNS = 400;
-    private static final int CALLS = 500;
+    private static final int RUNS = 900;
+    /** An object's 512th call is the last whose answer is promised. */
+    private static final int MOST = 512;
+    /** A text of 400 bytes takes so many calls to tell. */
+    private static final int TELLING = 28;
     private static int wrong = 0;
     private static long calls = 0;
 
@@ -18,6 +21,9 @@ final class MirrorTests {
     private final List<String> trace = new ArrayList<>();
     private boolean failed = false;
     private int people = 0;
+    /** How often the clock was called. */
+    private int used = 0;
+    private int today = 0;
 
     private MirrorTests(long seed) {
         random = new Random(seed);
@@ -55,7 +61,7 @@ final class MirrorTests {
                 tell(k, random.nextInt(8) == 0);
             }
         }
-        for (int n = 0; n < CALLS && !failed; n++) {
+        while (used < MOST - 100 - TELLING && !failed) {
             int dice = random.nextInt(100);
             if (dice < 6) {
                 tell(random.nextInt(4), random.nextInt(2) == 0);
@@ -74,8 +80,9 @@ final class MirrorTests {
         for (int what = 0; what < 16 && !failed; what++) {
             call("look", what);
         }
-        for (int i = 0; i < 600 && !failed; i++) {
-            call("book", i / 4, i % 4);
+        int lines = Math.max(1, clock.look(9));
+        for (used++; used < MOST && !failed;) {
+            call("book", lines - 1 - random.nextInt(Math.min(lines, 20)), random.nextInt(4));
         }
     }
 
@@ -157,6 +164,7 @@ final class MirrorTests {
             got = "" + e.getCause();
         }
         calls++;
+        used++;
         trace.add(name + Arrays.toString(args) + " -> " + got);
         if (!same(due, got)) {
             wrong++;
@@ -166,12 +174,15 @@ final class MirrorTests {
         }
         if (name.equals("islander") || name.equals("image")) {
             people = clock.look(0);
+            used++;
         }
         return got;
     }
 
     private void tell(int k, boolean spoilt) throws Exception {
         StringBuilder s = new StringBuilder();
+        today = clock.look(8);
+        used++;
         int lines = random.nextInt(12) == 0 ? 15 + random.nextInt(3) : random.nextInt(7);
         for (int i = 0; i < lines && s.length() < 330; i++) {
             s.append(k == 0 ? lawLine() : k == 1 ? boatLine() : k == 2 ? townLine() : kinLine());
@@ -196,6 +207,7 @@ final class MirrorTests {
         call("fault", 0);
         call("fault", 1);
         boolean tooDeep = clock.fault(0) == 3;
+        used++;
         if (!spoilt && !tooDeep && lines < 16 && s.length() < 330 && people > 1 && got.equals(-1)) {
             wrong++;
             System.out.println("a good text was refused: " + s);
@@ -279,7 +291,7 @@ final class MirrorTests {
     }
 
     private int soon() {
-        return random.nextInt(3) == 0 ? random.nextInt(60) : Math.min(999, clock.look(8) + random.nextInt(6));
+        return random.nextInt(3) == 0 ? random.nextInt(60) : Math.min(999, today + random.nextInt(6));
     }
 
     private String boatLine() {

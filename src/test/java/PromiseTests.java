@@ -404,6 +404,8 @@ final class PromiseTests extends Bench {
         faulty(x, 0, "when 1;", 1, 0);
         faulty(x, 0, "leaveswhen 1;", 1, 0);
         faulty(x, 0, "leaves boat;", 1, 7);
+        x = with(10, 1, 20, 2);
+        tell(x, 0, "winds 7;");
         for (String letter : new String[] {"a", "z", "A", "Z"}) {
             faulty(x, 0, "leaves" + letter + " 1;", 1, 0);
         }

@@ -1,7 +1,7 @@
 import java.lang.management.ManagementFactory;
 
 /**
- * All calls of one run live in one room: what an object makes, and what 512 of its dearest calls make, is measured
+ * All calls of one run live in one room: what an object makes, and what 480 of its dearest calls make, is measured
  * in bytes, of which an element has four or eight.
  */
 final class RoomTests {
@@ -17,7 +17,7 @@ final class RoomTests {
         }
         long one = madeByNew();
         long calls = madeByCalls(filled());
-        System.out.println("RoomTests: " + one + " bytes for an object, " + calls + " bytes by 512 calls"
+        System.out.println("RoomTests: " + one + " bytes for an object, " + calls + " bytes by 480 calls"
                 + (warm < 0 ? "?" : ""));
         if (one > MOST_FOR_ONE || calls > MOST_FOR_CALLS) {
             wrong++;
@@ -50,7 +50,7 @@ final class RoomTests {
 
     private static long madeByCalls(RopeClock x) {
         long before = made();
-        for (int i = 0; i < 32; i++) {
+        for (int i = 0; i < 30; i++) {
             x.days(60);
             x.goes(60, 0);
             x.lonely();

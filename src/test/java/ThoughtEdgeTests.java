@@ -186,6 +186,10 @@ final class ThoughtEdgeTests extends Bench {
         due(2047, y.must(9999, 1));
         due(10, y.must(9990, 0));
         due(2046, y.must(9990, 1));
+        // And 10000 can't be asked, though ten 999 and one of 10 are just that.
+        tell(y, 0, "winds 10 when weight=9;winds 999;");
+        due(-1, y.must(10000, 0));
+        due(-1, y.must(10000, 1));
     }
 
     private static void mustFewest() {
@@ -223,6 +227,8 @@ final class ThoughtEdgeTests extends Bench {
         RopeClock x = with(5, 0, 5, 0, 7, 0);
         due(1, x.must(5, 1));
         x.act(0, 0);
+        due(-1, x.must(1, 0));
+        due(-1, x.must(17, 0));
         due(2, x.must(5, 1));
         x.act(0, 1);
         due(-1, x.must(5, 1));
@@ -438,6 +444,9 @@ final class ThoughtEdgeTests extends Bench {
             due(fewest[t - 1], x.glasses(3, 5, t));
             due(fewest[t - 1], x.glasses(5, 3, t));
         }
+        // 4 and 5 for 7: the 4 at 4; both at 5, the 4 with one minute then; at 6 the 5, which ran one minute.
+        due(4, x.glasses(4, 5, 7));
+        due(4, x.glasses(5, 4, 7));
     }
 
     private static void seatsAreSeven() {
@@ -573,11 +582,14 @@ final class ThoughtEdgeTests extends Bench {
         // At the first change an odd one's last bell stays, at the second the first, and an even one's last, too.
         int[][] first = {{1, 0, 2}, {1, 0, 3, 2}, {1, 0, 3, 2, 4}};
         int[][] second = {{1, 2, 0}, {1, 3, 0, 2}, {1, 3, 0, 4, 2}};
+        int[][] third = {{2, 1, 0}, {3, 1, 2, 0}, {3, 1, 4, 0, 2}};
         RopeClock y = new RopeClock();
         for (int n = 3; n <= 5; n++) {
             for (int p = 0; p < n; p++) {
                 due(first[n - 3][p], y.bells(n, 1, p));
                 due(second[n - 3][p], y.bells(n, 2, p));
+                due(2 * n, y.bells(n, 2, -1));
+                due(third[n - 3][p], y.bells(n, 3, p));
                 // A million is 4 more than a multiple of 6, by 8 and by 10 it goes up.
                 due(n == 3 ? y.bells(3, 4, p) : p, y.bells(n, 1000000, p));
             }
@@ -705,7 +717,7 @@ final class ThoughtEdgeTests extends Bench {
         bounds(1, 500, -1, q -> x.meets(0, 1, 0, q));
         int[][] rows = {{0, 1, 0, 1, 0}, {499, 500, 499, 500, 499}, {499, 1, 0, 500, 500}, {0, 500, 499, 1, 500},
             {0, 500, 499, 500, -1}, {499, 500, 0, 1, 499}, {1, 2, 0, 2, -1}, {1, 2, 0, 3, 3}, {0, 2, 1, 3, 4}, {0, 500, 1, 499, 500},
-            {1, 500, 0, 499, 249001}, {0, 499, 1, 500, 249001}, {498, 499, 499, 500, 499 * 500 - 1}};
+            {2, 3, 10, 4, 14}, {7, 5, 11, 3, 17}, {3, 1, 499, 500, 499}, {498, 500, 499, 1, 998}, {1, 500, 0, 499, 249001}, {0, 499, 1, 500, 249001}, {498, 499, 499, 500, 499 * 500 - 1}};
         for (int[] r : rows) {
             due(r[4], x.meets(r[0], r[1], r[2], r[3]));
             due(r[4], x.meets(r[2], r[3], r[0], r[1]));
