@@ -1,3 +1,4 @@
+import java.util.List;
 import java.util.function.Consumer;
 import java.util.function.ToIntFunction;
 
@@ -20,6 +21,7 @@ final class RefusedTests extends Bench {
         refusedLastDay();
         questions();
         questionsRefused();
+        askedBefore();
         finish("RefusedTests");
     }
 
@@ -315,6 +317,41 @@ final class RefusedTests extends Bench {
         unchanged(x -> x.book(0, 3));
         unchanged(x -> x.look(10));
         unchanged(x -> x.end(9));
+    }
+
+    /** A ferry with these couples, each as two digits. */
+    private static int ferried(RopeClock x, int n, int b, int... couples) {
+        x.couple(-1, 0);
+        for (int c : couples) {
+            x.couple(c / 10, c % 10);
+        }
+        return x.ferry(n, b);
+    }
+
+    private static void askedBefore() {
+        promise = "IN THOUGHT (nothing of it stays), for the next question";
+        List<ToIntFunction<RopeClock>> asked = List.of(
+                x -> ferried(x, 6, 3), x -> ferried(x, 2, 1, 1), x -> ferried(x, 3, 1, 1, 12), x -> ferried(x, 3, 1, 1, 12, 2),
+                x -> ferried(x, 4, 1, 1, 12, 23), x -> ferried(x, 4, 2, 1, 12, 23), x -> ferried(x, 6, 1, 1, 23, 45),
+                x -> ferried(x, 6, 2, 1, 2, 12, 34, 35, 45), x -> ferried(x, 5, 2, 1, 2, 3, 4),
+                x -> ferried(x, 6, 3, 1, 2, 12, 34, 35, 45, 3, 14), x -> ferried(x, 1, 1),
+                x -> x.glasses(29, 30, 120), x -> x.glasses(1, 1, 120), x -> x.glasses(4, 5, 7), x -> x.glasses(30, 30, 119),
+                x -> x.game(60, 1023, 49, 0), x -> x.game(60, 512, 59, 1), x -> x.game(2, 1, 0, 0), x -> x.game(12, 0, 3, 0),
+                x -> x.bells(8, 7, 3), x -> x.bells(3, 2, 0), x -> x.bells(5, 0, -1),
+                x -> x.must(9999, 0), x -> x.must(160, 1), x -> x.must(30, 0), x -> x.goes(60, 0), x -> x.lonely(), x -> x.goes(1, 2));
+        for (ToIntFunction<RopeClock> before : asked) {
+            for (ToIntFunction<RopeClock> now : asked) {
+                RopeClock x = with(100, 9, 60, 3, 30, 6);
+                before.applyAsInt(x);
+                due(now.applyAsInt(with(100, 9, 60, 3, 30, 6)), now.applyAsInt(x));
+            }
+        }
+        // And all of them one behind another, twice round.
+        RopeClock y = with(100, 9, 60, 3, 30, 6);
+        for (int i = 0; i < 2 * asked.size(); i++) {
+            ToIntFunction<RopeClock> now = asked.get(i * 5 % asked.size());
+            due(now.applyAsInt(with(100, 9, 60, 3, 30, 6)), now.applyAsInt(y));
+        }
     }
 
     private static void questionsRefused() {
