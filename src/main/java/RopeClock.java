@@ -535,18 +535,20 @@ public final class RopeClock {
         Arrays.fill(sums, 0, m + 1, UNREACHED);
         sums[0] = 0;
         Island island = now.island;
+        int reach = 0;
         for (int i = 0; i < island.people; i++) {
             int winds = island.isHere(i) ? now.tells(Law.WINDS, i) : 0;
             // Who winds nothing never belongs to the fewest.
             if (winds > 0) {
-                addToSums(winds, m, (1 << PEOPLE) + (1 << i));
+                reach = Math.min(m, reach + winds);
+                addToSums(winds, reach, (1 << PEOPLE) + (1 << i));
             }
         }
         return sums[m];
     }
 
-    private void addToSums(int winds, int m, int more) {
-        for (int sum = m; sum >= winds; sum--) {
+    private void addToSums(int winds, int reach, int more) {
+        for (int sum = reach; sum >= winds; sum--) {
             int without = sums[sum - winds];
             if (without != UNREACHED) {
                 sums[sum] = Math.min(sums[sum], without + more);
@@ -1812,7 +1814,8 @@ public final class RopeClock {
             boolean settles = set != 0;
             for (int round = 0; round <= n && settles; round++) {
                 settles = false;
-                for (int hour = 0; hour < n; hour++) {
+                // Hands go forwards, so the hours before 0 settle those before them in the same round.
+                for (int hour = n - 1; hour >= 0; hour--) {
                     int found = worth[hour] == 0 ? bestFrom(n, set, hour) : 0;
                     if (found != 0) {
                         worth[hour] = found;
