@@ -1,14 +1,22 @@
+import java.io.PrintWriter;
+import java.io.StringWriter;
 import java.lang.reflect.Constructor;
 import java.lang.reflect.Field;
 import java.lang.reflect.Method;
 import java.lang.reflect.Modifier;
 import java.nio.file.Files;
 import java.nio.file.Path;
+import java.util.ArrayList;
 import java.util.HashSet;
+import java.util.List;
+import java.util.Map;
+import java.util.Optional;
 import java.util.Set;
+import java.util.TreeMap;
 import java.util.TreeSet;
 import java.util.regex.Matcher;
 import java.util.regex.Pattern;
+import java.util.spi.ToolProvider;
 
 /** The rules of LANGUAGE.md that can be seen from the text and the class, and the document's face. */
 final class LanguageTests {
@@ -32,6 +40,7 @@ final class LanguageTests {
         noForbiddenShapes(code, plain);
         methodsAreShort(plain);
         faceIsAsTold();
+        callsAreShallow();
         System.out.println("LanguageTests: " + wrong + " wrong");
         if (wrong != 0) {
             System.exit(1);
@@ -123,6 +132,67 @@ final class LanguageTests {
                 start = -1;
             }
         }
+    }
+
+    /** Calls that are no recursion go at most eight deep: seen from the compiled classes, where javap is at hand. */
+    private static void callsAreShallow() throws Exception {
+        Optional<ToolProvider> javap = ToolProvider.findFirst("javap");
+        if (javap.isEmpty()) {
+            return;
+        }
+        Path home = Path.of(RopeClock.class.getProtectionDomain().getCodeSource().getLocation().toURI());
+        Map<String, Set<String>> calls = new TreeMap<>();
+        for (Class<?> c : everyClass()) {
+            StringWriter out = new StringWriter();
+            javap.get().run(new PrintWriter(out), new PrintWriter(out), "-p", "-c", home.resolve(c.getName() + ".class").toString());
+            callsOf(c.getName(), out.toString(), calls);
+        }
+        if (!calls.containsKey("RopeClock.days")) {
+            blame("javap shows no calls");
+        }
+        for (String method : calls.keySet()) {
+            List<String> deepest = deepestFrom(method, calls, new ArrayList<>());
+            if (deepest.size() > 8) {
+                blame("calls " + deepest.size() + " deep: " + deepest);
+            }
+        }
+    }
+
+    private static List<Class<?>> everyClass() {
+        List<Class<?>> all = new ArrayList<>(List.of(RopeClock.class.getDeclaredClasses()));
+        all.add(RopeClock.class);
+        return all;
+    }
+
+    private static void callsOf(String owner, String listing, Map<String, Set<String>> calls) {
+        Pattern opens = Pattern.compile("^  \\S.*?([\\w$]+)\\(.*\\);$");
+        Pattern calling = Pattern.compile("// Method (?:([\\w$/]+)\\.)?\"?([\\w<>]+)\"?:");
+        String method = "";
+        for (String line : listing.split("\\R")) {
+            Matcher m = opens.matcher(line);
+            if (m.matches()) {
+                method = owner + "." + (m.group(1).equals(owner) ? "<init>" : m.group(1));
+                calls.putIfAbsent(method, new TreeSet<>());
+            }
+            Matcher called = calling.matcher(line);
+            if (called.find()) {
+                String whose = called.group(1) == null ? owner : called.group(1);
+                if (whose.startsWith("RopeClock")) {
+                    calls.get(method).add(whose + "." + called.group(2));
+                }
+            }
+        }
+    }
+
+    private static List<String> deepestFrom(String method, Map<String, Set<String>> calls, List<String> open) {
+        List<String> best = new ArrayList<>(open);
+        best.add(method);
+        List<String> here = List.copyOf(best);
+        for (String next : calls.getOrDefault(method, Set.of())) {
+            List<String> deeper = here.contains(next) ? here : deepestFrom(next, calls, here);
+            best = deeper.size() > best.size() ? deeper : best;
+        }
+        return best;
     }
 
     private static void faceIsAsTold() {
